@@ -761,7 +761,7 @@ public final class TraverseClosed {
             int z = seed;
             for (int i = 0; i < size; i++) {
                 z = z * 1664525 + 1013904223;
-                timeses[i] = (z & Integer.MAX_VALUE) / 256 % 9 + 1;
+                timeses[i] = (z & 0x7fffffff) / 256 % 9 + 1;
             }
             return z;
         }

@@ -49,6 +49,7 @@ public final class OracleTest {
                 : choice < 14 ? sameAnswer(named("side"), near(), near(), 1 + random.nextInt(reach))
                 : choice < 20 ? sameAnswer(named("kind"), random.nextInt(8), random.nextInt(6), random.nextInt(10))
                 : choice < 23 ? parts()
+                : choice < 26 ? laid()
                 : randomCall();
             if (!same) {
                 System.out.println("seed " + seed + ": " + String.join(" ", trail));
@@ -77,6 +78,20 @@ public final class OracleTest {
         }
         return same && sameAnswer(named("crosses")) && sameAnswer(named("cross"), i, j)
             && sameAnswer(named("turn"), i) && sameAnswer(named("lots"), 1 + j, random.nextInt(), v & 1);
+    }
+
+    /** Corners laid into a list, looked at and judged, with perhaps one of them made otherwise. */
+    private boolean laid() throws ReflectiveOperationException {
+        int list = random.nextInt(3);
+        int n = random.nextInt(21);
+        int place = random.nextInt(20);
+        boolean same = sameAnswer(named("list"), list, random.nextInt(2), n)
+            && sameAnswer(named("lays"), list, random.nextInt(3) == 0 ? place : 0)
+            && sameAnswer(named("judge"), list);
+        for (int i = 0; i < n && same; i++) {
+            same = sameAnswer(named("look"), list, i);
+        }
+        return same && sameAnswer(named("put"), list, place, longNumber()) && sameAnswer(named("judge"), list);
     }
 
     private boolean randomCall() throws ReflectiveOperationException {

@@ -189,6 +189,8 @@ public final class PromisesTest {
         dueFault("k1=0,0;", -2000);
         dueFault("k0=6,0;", -2000);
         dueFault("d1;", -2000);
+        dueFault("d9;d9;r;d9;", -2000);
+        dueFault("i0:0,0*0;d9;", -2000);
         dueFault("r;d0;d0;", -2005);
         dueFault("d0;k0=0,0;d9;", -2003);
         dueFault("s1,1*1;d1;d1;r;", -2010);
@@ -196,6 +198,7 @@ public final class PromisesTest {
         dueFault("s1,1*1;".repeat(7) + "i0:1,1*1;d9;", -2049);
         TraverseClosed x = new TraverseClosed();
         due.is("the 8-th has room", Due.tell(x, "s1,1*1;".repeat(8)), 8);
+        due.is("east or north may be 0", Due.tell(x, "d0;d0;i0:0,1*1;i0:1,0*1;"), 4);
         due.is("room behind one that is gone", Due.tell(x, "d0;s2,2*2;"), 2);
         due.is("the last", x.of(7, 4), 2);
     }
@@ -430,6 +433,11 @@ public final class PromisesTest {
         }
         TraverseClosed line = Due.of("s1,0*2;s1,0*3;s-1,0*5;");
         due.is("line", 100 * line.turn(0) + 10 * line.turn(1) + line.turn(2), 303);
+        TraverseClosed slanting = Due.of("s2,-1*1;s-1,2*1;s-1,2*3;s1,-2*1;s1,-2*3;s-2,1*1;");
+        int[] slants = {3, 1, 0, 3, 0, 2};
+        for (int i = 0; i < 6; i++) {
+            due.is("slanting " + i, slanting.turn(i), slants[i]);
+        }
         due.is("one side", Due.of("s1,0*2;").turn(0), 4);
         // Of two that go the same way nothing is left; the third is fixed and comes back alone.
         TraverseClosed still = Due.of("s1,0*1;s1,0*1;s0,1*1;s0,-1*1;k2=4,0;k3=4,0;");
@@ -795,11 +803,12 @@ public final class PromisesTest {
             due.is("20", x.list(i, i % 2, 20), 1);
             due.is("last", x.look(i, 19), 0);
         }
+        x.put(0, 0, 7);
         x.put(0, 3, 7);
         due.is("too long", x.list(0, 0, 21), -6);
         due.is("as it was", x.look(0, 3), 7);
         due.is("again", x.list(0, 0, 4), 1);
-        due.is("all 0", x.look(0, 3), 0);
+        due.is("all 0", x.look(0, 3) + x.look(0, 0), 0);
         due.is("shorter", x.look(0, 4), R + 13);
         due.is("of none", x.list(0, 1, 0), 1);
         due.is("no place", x.look(0, 0), R + 13);
@@ -869,6 +878,15 @@ public final class PromisesTest {
         for (int i = 0; i < 6; i++) {
             due.is("place " + i, x.look(0, i), want[i]);
         }
+        TraverseClosed square = Due.of(SQUARE);
+        square.list(0, 0, 9);
+        square.put(0, 8, 7);
+        due.is("square", square.lays(0, 0), 4);
+        // W is 60.
+        long[] corners = {0, 0, 9000, 0, 9000, 9000, 0, 9000, 7};
+        for (int i = 0; i < 9; i++) {
+            due.is("square, place " + i, square.look(0, i), corners[i]);
+        }
         x.list(1, 1, 4);
         due.is("of ints", x.lays(1, 0), 2);
         due.is("of ints", x.look(1, 3), -30);
@@ -912,6 +930,19 @@ public final class PromisesTest {
         x.put(1, 2, 30L + (1L << 32));
         due.is("longs whole", x.judge(1), 1);
         due.is("refusals", refusals(x), 200000);
+        TraverseClosed square = Due.of(SQUARE);
+        square.list(0, 0, 8);
+        square.lays(0, 0);
+        due.is("square", square.judge(0), -9);
+        for (int i = 7; i >= 0; i--) {
+            square.put(0, i, square.look(0, i) + 1);
+            due.is("square, otherwise from " + i + " on", square.judge(0), i / 2);
+        }
+        for (int n = 0; n < 8; n++) {
+            square.list(0, 0, n);
+            square.lays(0, 0);
+            due.is("square of " + n, square.judge(0), 100 + n / 2);
+        }
         TraverseClosed fixed = Due.of(ALL_FIXED);
         due.is("nobody ahead of state", fixed.judge(3), -1);
         due.is("state ahead of missing", fixed.judge(0), -3);
