@@ -208,6 +208,7 @@ final class EdgesOfLetters {
         edge.tells(ONE, "s1,1*9;", 1);
         edge.faults(ONE, "s1,1*0;", -2000);
         edge.tells(ONE, "i0:0,1*1;", 1);
+        edge.tells(ONE, "i0:1,0*1;", 1);
         edge.faults(ONE, "i0:0,0*1;", -2000);
         edge.faults(ONE, "i0:1,1*0;", -2000);
         edge.faults(ONE, "i1:1,1*1;", -2000);

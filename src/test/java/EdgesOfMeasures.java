@@ -138,6 +138,16 @@ final class EdgesOfMeasures {
         edge.reads("s9,8*1;s8,7*1;s-9,-8*1;s-8,-7*1;", x -> x.turn(1), 2);
         edge.reads("s9,8*1;s9,8*2;s-9,-8*3;", x -> x.turn(1), 0);
         edge.reads("s9,8*1;s9,8*2;s-9,-8*3;", x -> x.turn(2), 3);
+        // Back and straight on by east alone and by north alone, both ways.
+        for (String line : new String[] {"s5,0*1;s-2,0*1;s-3,0*1;", "s0,5*1;s0,-2*1;s0,-3*1;"}) {
+            edge.reads(line, x -> x.turn(1), 3);
+            edge.reads(line, x -> x.turn(2), 0);
+            edge.reads(line + "r;", x -> x.turn(1), 0);
+            edge.reads(line + "r;", x -> x.turn(2), 3);
+        }
+        // As short as can be: SPREAD STEPS of a third of a tenth, twice, and back.
+        edge.reads("s1,0*1;s1,0*1;s1,0*1;k0=1,1;k1=1,1;", x -> x.turn(1), 0);
+        edge.reads("s1,0*1;s1,0*1;s1,0*1;k0=1,1;k1=1,1;", x -> x.turn(2), 3);
         // Nearly back: 9,8 and -8,-7.
         edge.reads("s9,8*1;s-8,-7*1;s-9,-8*1;s8,7*1;", x -> x.turn(1), 1);
         edge.reads("s8,7*1;s-9,-8*1;s-8,-7*1;s9,8*1;", x -> x.turn(1), 2);
@@ -177,6 +187,8 @@ final class EdgesOfMeasures {
     private void endsCounted() {
         edge.of(0, "if they, from CORNER to CORNER (ends counted), have a point in common.");
         edge.reads(TOUCHING, x -> x.cross(0, 2), 1);
+        edge.reads(TOUCHING, x -> x.cross(2, 0), 1);
+        edge.reads(TOUCHING, x -> x.cross(3, 0), 1);
         // All but the last are FIXED, so that the last one closes. In steps of 10 tenths, SIDE 0 is
         // 0,0 to 81,0; SIDE 2 comes down to one short of it, just to it, to one behind it.
         crossFirst("s9,0*9;s0,8*8;s-5,-9*7;s-4,9*7;s0,-1*1;", 0, 0);

@@ -47,6 +47,24 @@ final class EdgesOfTold {
                 edge.is(x.judge(2), i / 2);
             }
         }
+        // W of these five is 16: CORNERS told by hand.
+        long[] told = {0, 0, 640, 0, 640, 320, 320, 0, 0, 320};
+        for (int sort = 0; sort <= 1; sort++) {
+            TraverseClosed five = Edge.made(EdgesOfTerms.TOUCHING);
+            five.list(2, sort, 10);
+            for (int i = 0; i < 10; i++) {
+                five.put(2, i, -1);
+            }
+            for (int i = 0; i < 10; i++) {
+                edge.is(five.judge(2), i / 2);
+                five.put(2, i, told[i]);
+            }
+            edge.is(five.judge(2), -9);
+            edge.is(five.lays(2, 0), 5);
+            for (int i = 0; i < 10; i++) {
+                edge.is(five.look(2, i), told[i]);
+            }
+        }
         // What is behind the last CORNER does not matter.
         TraverseClosed more = laid(SQUARE, 0, 9);
         more.put(2, 8, 1);
@@ -157,6 +175,18 @@ final class EdgesOfTold {
         }
         edge.refuses(two, x -> x.lots(0, 0, 0), -4);
         edge.refuses(two, x -> x.lots(21, 0, 0), -6);
+        // Each from now: behind every change of SIDES.
+        TraverseClosed now = Edge.made("s1,0*9;");
+        edge.is(now.lots(1, 0, 1), 60);
+        now.kind(0, 1, 5);
+        edge.is(now.lots(1, 0, 1), 90);
+        now.side(0, -1, 1);
+        edge.is(now.lots(1, 0, 1), 130);
+        now.gone(0);
+        edge.is(now.lots(1, 0, 1), 60);
+        now.on();
+        edge.is(now.lots(1, 0, 1), 60);
+        edge.is(now.lots(1, 0, 0), 1);
         edge.reads("", x -> x.lots(20, 0, 0), 0);
         edge.reads("", x -> x.lots(20, 0, 1), 0);
         // At one point all SIDES CROSS, if there are 4 of them, whatever TIMES are; 3 have none to CROSS.
