@@ -181,10 +181,10 @@ final class Edge {
         }
     }
 
-    /** Every number below 0 that a promise names must stand in a sentence that was quoted from it. */
+    /** Every number below 0 that "Terms" or a promise names must stand in a sentence quoted from there. */
     void end() {
         due.about("edges");
-        for (int promise = 1; promise <= Document.PROMISES; promise++) {
+        for (int promise = 0; promise <= Document.PROMISES; promise++) {
             Set<String> left = document.numbersBelowZero(promise);
             left.removeAll(numbersQuoted.get(promise));
             due.isTrue(Document.name(promise) + " has no test of " + left, left.isEmpty());
