@@ -23,6 +23,17 @@ public final class RulesTest {
         "\\bnative\\b", "\\bvolatile\\b", "\\bObject\\b", "\\bSystem\\.(?!arraycopy\\b)", "\\bstatic \\{",
     };
 
+    /** What rule 4 leaves of the library, as far as a class of numbers and texts may want it. */
+    private static final Pattern LIBRARY = Pattern.compile("java/lang/(Object\\.<init>|System\\.arraycopy"
+        + "|String\\.(length|charAt|isEmpty|equals|indexOf|substring|toCharArray|<init>)"
+        + "|StringBuilder\\.(append|charAt|setCharAt|setLength|deleteCharAt|reverse|length|toString|<init>)"
+        + "|(Integer|Long|Math)\\.(compare|max|min|abs|signum|bitCount|floorDiv|floorMod))"
+        + "|java/util/Arrays\\.(copyOf|copyOfRange|fill)");
+    private static final Pattern METHOD = Pattern.compile("( +)\\b(?:[\\w\\[\\]]+ )*\\w+\\([\\w\\[\\], ]*\\) \\{");
+    private static final int MOST_LINES = 60;
+    private static final int MOST_CLASSES = 12;
+    private static final int MOST_FIELDS = 20;
+
     private static final Due due = new Due();
 
     public static void main(String[] args) throws IOException {
@@ -32,6 +43,11 @@ public final class RulesTest {
         nothingElseIsSeen();
         words(text.replaceAll("(?s)/\\*.*?\\*/|//[^\n]*|\"[^\"\n]*\"", " "));
         signs(text);
+        sizes(text.split("\n"));
+        compiled(TraverseClosed.class);
+        for (Class<?> inside : TraverseClosed.class.getDeclaredClasses()) {
+            compiled(inside);
+        }
         due.end();
     }
 
@@ -101,5 +117,33 @@ public final class RulesTest {
 
     private static void signs(String text) {
         due.isTrue("signs 1 to 127 alone", text.chars().allMatch(c -> c > 0 && c < 128));
+    }
+
+    private static void sizes(String[] lines) {
+        int methods = 0;
+        for (int i = 0; i < lines.length; i++) {
+            Matcher m = METHOD.matcher(lines[i]);
+            if (m.matches()) {
+                int end = i;
+                while (end < lines.length && !lines[end].equals(m.group(1) + "}")) {
+                    end++;
+                }
+                due.isTrue(lines[i] + " is of " + (end - i + 1) + " lines", end - i < MOST_LINES);
+                methods++;
+            }
+        }
+        due.isTrue("methods are found", methods > 38);
+        due.isTrue("classes", TraverseClosed.class.getDeclaredClasses().length < MOST_CLASSES);
+    }
+
+    private static void compiled(Class<?> one) throws IOException {
+        Compiled compiled = Compiled.of(one);
+        due.isTrue(one + " binds no calls when it runs", !compiled.bindsCalls());
+        for (String use : compiled.uses()) {
+            boolean isOwn = use.startsWith("TraverseClosed.") || use.startsWith("TraverseClosed$");
+            due.isTrue(one + " uses " + use, isOwn || LIBRARY.matcher(use).matches());
+        }
+        long fields = Arrays.stream(one.getDeclaredFields()).filter(f -> !Modifier.isStatic(f.getModifiers())).count();
+        due.isTrue(one + " has " + fields + " fields", fields <= MOST_FIELDS);
     }
 }
